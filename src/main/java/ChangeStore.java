@@ -279,7 +279,11 @@ public final class ChangeStore {
         return c >= 0 && c < MAX_COMMITS && (set >> c & 1) != 0;
     }
 
-    /** All commits ever made, in rows that are made once so that no call makes an object. */
+    /**
+     * All commits ever made, in rows that are made once so that no call makes an object. A new
+     * commit at most doubles the greatest count, or the greatest difference to a parent's count,
+     * so 60 commits keep every count exact in a long.
+     */
     private static final class Commits {
         private final int[] parents;
         private final int[] changes;
@@ -408,9 +412,9 @@ public final class ChangeStore {
             if (!has(c) || !isPath(path) || !isValue(v)) {
                 return;
             }
-            int start = start(c, path);
-            Arrays.fill(counts, start, start + VALUES, 0L);
-            counts[start + v] = 1;
+            for (int value = 0; value < VALUES; value++) {
+                counts[start(c, path) + value] = value == v ? 1 : 0;
+            }
         }
 
         /** Only what a refused call made is dropped, so its rows are free to be used again. */
@@ -440,9 +444,11 @@ public final class ChangeStore {
             marks = new int[MAX_OPERATIONS * MARKS];
             firsts[0] = NONE;
             seconds[0] = NONE;
-            shown[0] = 1L << ROOT;
+            shown[0] = bit(ROOT);
             workings[0] = ROOT;
-            Arrays.fill(marks, 0, MARKS, NONE);
+            for (int mark = 0; mark < MARKS; mark++) {
+                marks[mark] = NONE;
+            }
             size = 1;
         }
 

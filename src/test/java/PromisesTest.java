@@ -43,6 +43,11 @@ public final class PromisesTest {
         due("commit(" + c + ", 1)", x.commit(c, 1), change);
     }
 
+    private static void dueBefore(ChangeStore x, int operation, int first) {
+        due("before(" + operation + ", 0)", x.before(operation, 0), first);
+        due("before(" + operation + ", 1)", x.before(operation, 1), NONE);
+    }
+
     /** Commits 1 to size, each on the one before it, by operations of the same numbers. */
     private static ChangeStore chain(int size) {
         ChangeStore x = new ChangeStore();
@@ -95,8 +100,7 @@ public final class PromisesTest {
         dueCommit(x, 1, 0, 1);
         due("working(1)", x.working(1), 1);
         dueVisible(x, 1, 0, 1);
-        due("before(1, 0)", x.before(1, 0), 0);
-        due("before(1, 1)", x.before(1, 1), NONE);
+        dueBefore(x, 1, 0);
         due("write(3, 7)", x.write(3, 7), 2);
         for (int c : NO_INDEX) {
             due("create(" + c + ")", x.create(c), REFUSED);
@@ -151,6 +155,7 @@ public final class PromisesTest {
         due("operation()", x.operation(), 1);
         due("mark(1, 1)", x.mark(1, 1), 2);
         due("write(2, 7)", x.write(2, 7), 3);
+        dueBefore(x, 3, 2);
         dueCommit(x, 2, 0, 1);
         dueCounts(x, 2, 2, 0, 0, 0, 0, 0, 0, 0, 1);
         dueCounts(x, 2, 3, 1);
@@ -245,6 +250,7 @@ public final class PromisesTest {
         due("rebase(3, 2)", x.rebase(3, 2), UNCHANGED);
         due("operation()", x.operation(), 4);
         due("rebase(2, 4)", x.rebase(2, 4), 5);
+        dueBefore(x, 5, 4);
         dueCommit(x, 5, 4, 2);
         dueCommit(x, 6, 5, 3);
         dueVisible(x, 5, 0, 1, 4, 5, 6);
@@ -329,6 +335,7 @@ public final class PromisesTest {
         due("abandon(5), replaced", x.abandon(5), REFUSED);
         due("abandon(7), not made", x.abandon(7), REFUSED);
         due("abandon(4)", x.abandon(4), 9);
+        dueBefore(x, 9, 8);
         dueVisible(x, 9, 0, 2, 7);
         dueCommit(x, 7, 2, 3);
         dueCounts(x, 7, 0, 0, 1);
@@ -352,6 +359,31 @@ public final class PromisesTest {
         due("abandon(1), operations full", x.abandon(1), FULL);
         due("abandon(0), operations full", x.abandon(0), REFUSED);
         dueCommit(x, 3, NONE, NONE);
+        abandonOneOfTwins();
+    }
+
+    /** What a commit was replaced by goes before another visible commit of its change. */
+    private static void abandonOneOfTwins() {
+        ChangeStore x = twins();
+        due("create(2)", x.create(2), 5);
+        due("mark(0, 2)", x.mark(0, 2), 6);
+        due("edit(2)", x.edit(2), 7);
+        due("abandon(2)", x.abandon(2), 8);
+        dueCommit(x, 5, 0, 2);
+        dueVisible(x, 8, 0, 3, 5);
+        due("marked(8, 0)", x.marked(8, 0), 0);
+        due("working(8)", x.working(8), 0);
+    }
+
+    /** Commits 2 and 3 are both visible with change 1, after a join by operation 4. */
+    private static ChangeStore twins() {
+        ChangeStore x = chain(1);
+        due("fork(1)", x.fork(1), true);
+        due("write(0, 1)", x.write(0, 1), 2);
+        due("choose(0)", x.choose(0), true);
+        due("write(0, 2)", x.write(0, 2), 3);
+        due("join()", x.join(), 4);
+        return x;
     }
 
     private static void squash() {
@@ -374,6 +406,7 @@ public final class PromisesTest {
         due("squash(3), replaced", x.squash(3), REFUSED);
         due("squash(8), not made", x.squash(8), REFUSED);
         due("squash(4)", x.squash(4), 10);
+        dueBefore(x, 10, 9);
         dueCommit(x, 8, 0, 1);
         dueCounts(x, 8, 0, 0, 0, 1);
         dueCommit(x, 9, 8, 3);
@@ -424,6 +457,7 @@ public final class PromisesTest {
         due("edit(2)", x.edit(2), UNCHANGED);
         due("operation()", x.operation(), 3);
         due("edit(1)", x.edit(1), 4);
+        dueBefore(x, 4, 3);
         due("working(4)", x.working(4), 1);
         due("working(3)", x.working(3), 2);
         due("marked(4, 0)", x.marked(4, 0), 2);
@@ -463,6 +497,7 @@ public final class PromisesTest {
         due("marked(3, 2)", x.marked(3, 2), NONE);
         due("mark(0, 2)", x.mark(0, 2), UNCHANGED);
         due("mark(0, 1)", x.mark(0, 1), 6);
+        dueBefore(x, 6, 5);
         due("marked(6, 0)", x.marked(6, 0), 1);
         due("working(6)", x.working(6), 2);
         dueVisible(x, 6, 0, 1, 2);
@@ -489,10 +524,10 @@ public final class PromisesTest {
         due("undo()", x.undo(), 4);
         due("marked(4, 2)", x.marked(4, 2), NONE);
         due("working(4)", x.working(4), 2);
-        due("before(4, 0)", x.before(4, 0), 3);
+        dueBefore(x, 4, 3);
         due("undo() of undo()", x.undo(), 5);
         due("marked(5, 2)", x.marked(5, 2), 2);
-        due("before(5, 0)", x.before(5, 0), 4);
+        dueBefore(x, 5, 4);
         due("restore(1)", x.restore(1), 6);
         dueVisible(x, 6, 0, 1);
         due("undo() of restore()", x.undo(), 7);
@@ -525,7 +560,7 @@ public final class PromisesTest {
         dueVisible(x, 5, 0, 1, 2);
         due("marked(5, 1)", x.marked(5, 1), 2);
         due("working(5)", x.working(5), 2);
-        due("before(5, 0)", x.before(5, 0), 4);
+        dueBefore(x, 5, 4);
         due("restore(0)", x.restore(0), 6);
         dueVisible(x, 6, 0);
         due("working(6)", x.working(6), 0);
@@ -717,12 +752,7 @@ public final class PromisesTest {
     }
 
     private static void twinWithGreatestNumber() {
-        ChangeStore x = chain(1);
-        due("fork(1)", x.fork(1), true);
-        due("write(0, 1)", x.write(0, 1), 2);
-        due("choose(0)", x.choose(0), true);
-        due("write(0, 2)", x.write(0, 2), 3);
-        due("join()", x.join(), 4);
+        ChangeStore x = twins();
         dueVisible(x, 4, 0, 2, 3);
         due("working(4)", x.working(4), 3);
         due("fork(1)", x.fork(1), true);
