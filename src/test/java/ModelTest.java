@@ -12,6 +12,11 @@ public final class ModelTest {
     private static final int MOST_CALLS = 512;
     private static final int SHOWN_FAULTS = 20;
 
+    /** Of 100 draws, below which each command is drawn; join seldom, so that the lines go apart. */
+    private static final int[] LIVELY = {12, 30, 46, 50, 54, 64, 72, 74, 78, 83, 89, 100};
+    /** Mostly commands that make no commits, so that the operations run out before them. */
+    private static final int[] SPARING = {3, 7, 8, 9, 10, 35, 60, 68, 86, 90, 94, 100};
+
     private static int wrong = 0;
     private static final int[] reached = new int[Reach.values().length];
 
@@ -513,7 +518,7 @@ public final class ModelTest {
             growTree(3 + draws.below(6));
         }
         for (int step = 0; step < length; step++) {
-            Command command = manyOperations ? drawSparing() : drawCommand();
+            Command command = drawCommand(manyOperations ? SPARING : LIVELY);
             int a = drawFirst(command);
             int b = drawSecond(command);
             step(command, a, b);
@@ -542,28 +547,13 @@ public final class ModelTest {
         due(store.ready().operation(), model.current(), "operation");
     }
 
-    /** The join is drawn seldom, so that both lines have gone some way apart by then. */
-    private Command drawCommand() {
+    private Command drawCommand(int[] upTo) {
         int draw = draws.below(100);
-        int[] upTo = {12, 30, 46, 50, 54, 64, 72, 74, 78, 83, 89, 100};
-        for (int i = 0; i < upTo.length; i++) {
-            if (draw < upTo[i]) {
-                return Command.values()[i];
-            }
+        int i = 0;
+        while (draw >= upTo[i]) {
+            i++;
         }
-        return Command.CREATE;
-    }
-
-    /** Mostly commands that make no commits, so that the operations run out before them. */
-    private Command drawSparing() {
-        int draw = draws.below(100);
-        int[] upTo = {3, 7, 8, 9, 10, 35, 60, 68, 86, 90, 94, 100};
-        for (int i = 0; i < upTo.length; i++) {
-            if (draw < upTo[i]) {
-                return Command.values()[i];
-            }
-        }
-        return Command.CREATE;
+        return Command.values()[i];
     }
 
     private int drawVisible() {
