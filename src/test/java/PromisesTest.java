@@ -1,75 +1,7 @@
 /** Each promise by hand: ordinary inputs, the edges that the document names, and wrong inputs. */
-public final class PromisesTest {
-    private static final int NONE = -1;
-    private static final int DISPUTED = -2;
-    private static final int REFUSED = -1;
-    private static final int UNCHANGED = -2;
-    private static final int FULL = -3;
-    private static final int[] NO_INDEX = {-1, -2, -64, Integer.MIN_VALUE, 64, 128, Integer.MAX_VALUE};
-
-    private static int wrong = 0;
-    private static int promise = 0;
-
-    private static void due(String what, long got, long want) {
-        if (got != want) {
-            wrong++;
-            System.out.println("promise " + promise + ": " + what + " answered " + got + ", due is " + want);
-        }
-    }
-
-    private static void due(String what, boolean got, boolean want) {
-        due(what, got ? 1 : 0, want ? 1 : 0);
-    }
-
-    private static void dueVisible(ChangeStore x, int operation, int... commits) {
-        for (int c = 0; c < 60; c++) {
-            boolean want = false;
-            for (int visible : commits) {
-                want |= visible == c;
-            }
-            due("visible(" + operation + ", " + c + ")", x.visible(operation, c), want);
-        }
-    }
-
-    private static void dueCounts(ChangeStore x, int c, int path, int... wanted) {
-        for (int v = 0; v < 8; v++) {
-            due("count(" + c + ", " + path + ", " + v + ")", x.count(c, path, v),
-                    v < wanted.length ? wanted[v] : 0);
-        }
-    }
-
-    private static void dueCommit(ChangeStore x, int c, int parent, int change) {
-        due("commit(" + c + ", 0)", x.commit(c, 0), parent);
-        due("commit(" + c + ", 1)", x.commit(c, 1), change);
-    }
-
-    private static void dueBefore(ChangeStore x, int operation, int first) {
-        due("before(" + operation + ", 0)", x.before(operation, 0), first);
-        due("before(" + operation + ", 1)", x.before(operation, 1), NONE);
-    }
-
-    /** Commits 1 to size, each on the one before it, by operations of the same numbers. */
-    private static ChangeStore chain(int size) {
-        ChangeStore x = new ChangeStore();
-        for (int c = 0; c < size; c++) {
-            due("create(" + c + ")", x.create(c), c + 1);
-        }
-        return x;
-    }
-
-    /** A chain of 2 that has come to operation 99, the last there may be, with 1 as working commit. */
-    private static ChangeStore outOfOperations() {
-        ChangeStore x = chain(2);
-        for (int operation = 3; operation < 100; operation++) {
-            int c = operation % 2 == 0 ? 2 : 1;
-            due("edit(" + c + ")", x.edit(c), operation);
-        }
-        due("working(99)", x.working(99), 1);
-        return x;
-    }
-
+public final class PromisesTest extends Checks {
     private static void newObject() {
-        promise = 1;
+        promise(1);
         ChangeStore x = new ChangeStore();
         due("operation()", x.operation(), 0);
         due("before(0, 0)", x.before(0, 0), NONE);
@@ -94,7 +26,7 @@ public final class PromisesTest {
     }
 
     private static void create() {
-        promise = 2;
+        promise(2);
         ChangeStore x = new ChangeStore();
         due("create(0)", x.create(0), 1);
         dueCommit(x, 1, 0, 1);
@@ -139,7 +71,7 @@ public final class PromisesTest {
     }
 
     private static void write() {
-        promise = 3;
+        promise(3);
         ChangeStore x = new ChangeStore();
         due("write(0, 1) on the root", x.write(0, 1), REFUSED);
         due("write(0, 0) on the root", x.write(0, 0), REFUSED);
@@ -197,17 +129,6 @@ public final class PromisesTest {
         due("write(0, 1)", x.write(0, 1), UNCHANGED);
     }
 
-    /** Commit 5 is commit 4 (value 2) rebased from the root onto commit 2 (value 1), by operation 5. */
-    private static ChangeStore conflict() {
-        ChangeStore x = new ChangeStore();
-        x.create(0);
-        x.write(0, 1);
-        x.create(0);
-        x.write(0, 2);
-        due("rebase(4, 2)", x.rebase(4, 2), 5);
-        return x;
-    }
-
     private static void writeWhenFull() {
         ChangeStore x = chain(59);
         due("write(0, 1), full", x.write(0, 1), FULL);
@@ -233,7 +154,7 @@ public final class PromisesTest {
     }
 
     private static void rebase() {
-        promise = 4;
+        promise(4);
         ChangeStore x = chain(3);
         due("create(0)", x.create(0), 4);
         for (int c : NO_INDEX) {
@@ -318,7 +239,7 @@ public final class PromisesTest {
     }
 
     private static void abandon() {
-        promise = 5;
+        promise(5);
         ChangeStore x = new ChangeStore();
         x.create(0);
         x.write(0, 1);
@@ -375,19 +296,8 @@ public final class PromisesTest {
         due("working(8)", x.working(8), 0);
     }
 
-    /** Commits 2 and 3 are both visible with change 1, after a join by operation 4. */
-    private static ChangeStore twins() {
-        ChangeStore x = chain(1);
-        due("fork(1)", x.fork(1), true);
-        due("write(0, 1)", x.write(0, 1), 2);
-        due("choose(0)", x.choose(0), true);
-        due("write(0, 2)", x.write(0, 2), 3);
-        due("join()", x.join(), 4);
-        return x;
-    }
-
     private static void squash() {
-        promise = 6;
+        promise(6);
         ChangeStore x = new ChangeStore();
         x.create(0);
         x.write(0, 1);
@@ -447,7 +357,7 @@ public final class PromisesTest {
     }
 
     private static void edit() {
-        promise = 7;
+        promise(7);
         ChangeStore x = chain(2);
         due("mark(0, 2)", x.mark(0, 2), 3);
         for (int c : NO_INDEX) {
@@ -476,7 +386,7 @@ public final class PromisesTest {
     }
 
     private static void mark() {
-        promise = 8;
+        promise(8);
         ChangeStore x = chain(2);
         for (int i : NO_INDEX) {
             due("mark(" + i + ", 1)", x.mark(i, 1), REFUSED);
@@ -514,7 +424,7 @@ public final class PromisesTest {
     }
 
     private static void undo() {
-        promise = 9;
+        promise(9);
         ChangeStore x = new ChangeStore();
         due("undo()", x.undo(), REFUSED);
         due("operation()", x.operation(), 0);
@@ -547,7 +457,7 @@ public final class PromisesTest {
     }
 
     private static void restore() {
-        promise = 10;
+        promise(10);
         ChangeStore x = chain(2);
         due("mark(1, 2)", x.mark(1, 2), 3);
         due("abandon(2)", x.abandon(2), 4);
@@ -577,7 +487,7 @@ public final class PromisesTest {
     }
 
     private static void fork() {
-        promise = 11;
+        promise(11);
         ChangeStore x = chain(2);
         for (int operation : NO_INDEX) {
             due("fork(" + operation + ")", x.fork(operation), false);
@@ -599,7 +509,7 @@ public final class PromisesTest {
     }
 
     private static void choose() {
-        promise = 12;
+        promise(12);
         ChangeStore x = chain(1);
         for (int line : NO_INDEX) {
             due("choose(" + line + ")", x.choose(line), false);
@@ -625,7 +535,7 @@ public final class PromisesTest {
     }
 
     private static void join() {
-        promise = 13;
+        promise(13);
         joinOfVisible();
         joinOfMarks();
         joinOfWorking();
@@ -844,7 +754,7 @@ public final class PromisesTest {
     }
 
     private static void operation() {
-        promise = 14;
+        promise(14);
         ChangeStore x = chain(2);
         due("operation()", x.operation(), 2);
         due("create(9)", x.create(9), REFUSED);
@@ -862,7 +772,7 @@ public final class PromisesTest {
     }
 
     private static void before() {
-        promise = 15;
+        promise(15);
         ChangeStore x = chain(1);
         due("fork(0)", x.fork(0), true);
         due("create(0)", x.create(0), 2);
@@ -886,7 +796,7 @@ public final class PromisesTest {
     }
 
     private static void visible() {
-        promise = 16;
+        promise(16);
         ChangeStore x = chain(2);
         due("abandon(2)", x.abandon(2), 3);
         dueVisible(x, 0, 0);
@@ -907,7 +817,7 @@ public final class PromisesTest {
     }
 
     private static void working() {
-        promise = 17;
+        promise(17);
         ChangeStore x = chain(2);
         due("edit(1)", x.edit(1), 3);
         due("working(0)", x.working(0), 0);
@@ -921,7 +831,7 @@ public final class PromisesTest {
     }
 
     private static void marked() {
-        promise = 18;
+        promise(18);
         ChangeStore x = chain(1);
         x.mark(0, 1);
         x.mark(1, 0);
@@ -942,7 +852,7 @@ public final class PromisesTest {
     }
 
     private static void head() {
-        promise = 19;
+        promise(19);
         ChangeStore x = chain(2);
         due("create(0)", x.create(0), 3);
         due("create(1)", x.create(1), 4);
@@ -973,7 +883,7 @@ public final class PromisesTest {
     }
 
     private static void commit() {
-        promise = 20;
+        promise(20);
         ChangeStore x = chain(2);
         due("write(0, 1)", x.write(0, 1), 3);
         dueCommit(x, 0, NONE, 0);
@@ -990,7 +900,7 @@ public final class PromisesTest {
     }
 
     private static void count() {
-        promise = 21;
+        promise(21);
         ChangeStore x = conflict();
         dueCounts(x, 0, 0, 1);
         dueCounts(x, 2, 0, 0, 1);
@@ -1047,9 +957,6 @@ public final class PromisesTest {
         head();
         commit();
         count();
-        System.out.println(wrong == 0 ? "all promises hold" : wrong + " answers are not as due");
-        if (wrong != 0) {
-            System.exit(1);
-        }
+        end("PromisesTest");
     }
 }
