@@ -8,6 +8,8 @@ import java.nio.file.Path;
 import java.util.Arrays;
 import java.util.List;
 import java.util.TreeSet;
+import java.util.regex.Matcher;
+import java.util.regex.Pattern;
 
 /** The face of the class is the document's and no more, and its source keeps to the plainest rules. */
 public final class FaceTest {
@@ -21,6 +23,12 @@ public final class FaceTest {
     private static final String[] RULED_OUT = {
         "package ", "->", "::", "throw ", "try ", "static {", "synchronized", "assert ", "public static",
         "protected ", "finally"};
+
+    private static final List<String> LIBRARY = Arrays.asList("Arrays.fill", "System.arraycopy");
+    private static final List<String> MADE = Arrays.asList("Commits", "Operations", "Draft", "int", "long");
+    private static final int MOST_FIELDS = 20;
+    private static final int MOST_PARAMETERS = 7;
+    private static final int MOST_CLASSES = 12;
 
     private static int wrong = 0;
 
@@ -75,12 +83,42 @@ public final class FaceTest {
         }
     }
 
+    /** Rules 5 and 11: constants alone are static, and nothing is too large. */
+    private static void checkSizes(Class<?> type) {
+        int fields = 0;
+        for (Field field : type.getDeclaredFields()) {
+            boolean isStatic = Modifier.isStatic(field.getModifiers());
+            check(!isStatic || (Modifier.isFinal(field.getModifiers()) && field.getType() == int.class),
+                    field + " is a constant");
+            fields += isStatic ? 0 : 1;
+        }
+        check(fields <= MOST_FIELDS, type + " has few fields");
+        for (Method method : type.getDeclaredMethods()) {
+            check(method.getParameterCount() <= MOST_PARAMETERS, method + " has few parameters");
+        }
+        check(type.getDeclaredClasses().length < MOST_CLASSES, type + " has few classes inside");
+    }
+
+    /** Rule 4: of the library, only what the rules list and the program needs. */
+    private static void checkLibrary(String source) {
+        String code = source.replaceAll("(?s)/\\*.*?\\*/|//[^\n]*", "");
+        Matcher call = Pattern.compile("\\b([A-Z]\\w*\\.\\w+)\\(").matcher(code);
+        while (call.find()) {
+            check(LIBRARY.contains(call.group(1)), "allowed is: " + call.group(1));
+        }
+        Matcher made = Pattern.compile("\\bnew (\\w+)").matcher(code);
+        while (made.find()) {
+            check(MADE.contains(made.group(1)), "may be made: " + made.group(1));
+        }
+    }
+
     private static void checkSource() throws java.io.IOException {
         Path path = Path.of("src/main/java/ChangeStore.java");
         String source = new String(Files.readAllBytes(path), StandardCharsets.UTF_8);
         for (String ruledOut : RULED_OUT) {
             check(!source.contains(ruledOut), "the source is without '" + ruledOut + "'");
         }
+        checkLibrary(source);
         for (String line : source.split("\n")) {
             check(!line.startsWith("import ") || line.equals("import java.util.Arrays;"), "allowed is: " + line);
         }
@@ -89,6 +127,10 @@ public final class FaceTest {
     public static void main(String[] args) throws java.io.IOException {
         checkMembers();
         checkClass();
+        checkSizes(ChangeStore.class);
+        for (Class<?> inside : ChangeStore.class.getDeclaredClasses()) {
+            checkSizes(inside);
+        }
         checkSource();
         System.out.println(wrong == 0 ? "the face is the document's" : wrong + " faults in the face");
         if (wrong != 0) {
