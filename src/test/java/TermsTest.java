@@ -141,6 +141,34 @@ public final class TermsTest extends Checks {
         }
     }
 
+    /**
+     * Change 3 stands on 2 and change 1 on 3 in line 0, change 2 on 1 in line 1: 3 goes onto the twin
+     * of 2, that onto the twin of 1, that onto what 3 became, and so on round and round.
+     */
+    private static void endlessSettling() {
+        sentence("Terms", "FULL (-3) if there would be more than 60 commits (as settling would never end)");
+        Consumer<ChangeStore> round = x -> {
+            x.create(0);
+            x.create(0);
+            x.fork(2);
+            x.choose(0);
+            x.create(2);
+            x.choose(1);
+            x.rebase(2, 1);
+            x.choose(0);
+            x.rebase(1, 3);
+        };
+        ChangeStore x = after(round);
+        dueCommit(x, 3, 2, 3);
+        dueCommit(x, 4, 1, 2);
+        dueCommit(x, 5, 3, 1);
+        dueNoTrace("join()", round, y -> y.join(), FULL);
+        due("join()", x.join(), FULL);
+        due("restore(2), after which it ends", x.restore(2), 6);
+        due("join()", x.join(), 7);
+        dueVisible(x, 7, 0, 1, 4);
+    }
+
     private static void noneLostOrAltered() {
         sentence("Terms", "none is ever lost or altered");
         long[] last = {};
@@ -919,6 +947,7 @@ public final class TermsTest extends Checks {
         atMost60ByReplacing();
         atMost60BySettling();
         atMost60ByJoin();
+        endlessSettling();
         noneLostOrAltered();
         lowerParents();
         newChanges();
