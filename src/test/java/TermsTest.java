@@ -118,8 +118,10 @@ public final class TermsTest extends Checks {
     private static void atMost60ByJoin() {
         sentence("Terms", "FULL (-3) if there would be more than 60 commits (by the settling of a join)");
         ChangeStore x = after(y -> twentyNineToMove(y, 1));
-        due("join(), up to 60", x.join(), 32);
+        due("join(), up to 60", x.join(), 33);
         dueCommit(x, 59, 0, 30);
+        dueMarks(x, 33, 0, NONE, NONE);
+        due("working(33)", x.working(33), 59);
         Consumer<ChangeStore> oneMore = y -> twentyNineToMove(y, 2);
         dueNoTrace("join(), beyond 60", oneMore, y -> y.join(), FULL);
         dueNoTrace("join(), beyond 60, with line 1 chosen", y -> {
@@ -128,7 +130,7 @@ public final class TermsTest extends Checks {
         }, y -> y.join(), FULL);
     }
 
-    /** Line 1 abandons commit 1, on which line 0 makes 29; the join has to make each of them anew. */
+    /** Line 1 abandons commit 1, which line 0 marks; on it line 0 makes 29, each to be made anew. */
     private static void twentyNineToMove(ChangeStore x, int before) {
         for (int i = 0; i < before; i++) {
             x.create(0);
@@ -136,6 +138,7 @@ public final class TermsTest extends Checks {
         x.fork(before);
         x.abandon(1);
         x.choose(0);
+        x.mark(0, 1);
         for (int i = 0; i < 29; i++) {
             x.create(1);
         }
