@@ -384,10 +384,10 @@ public final class ChangeStore {
 
         int addMoved(int c, int onto) {
             int from = parentOf(c);
-            int made = addCopy(changeOf(c), onto, c);
-            if (made == NONE || !has(onto) || !has(from)) {
+            if (isFull() || !has(onto) || !has(from)) {
                 return NONE;
             }
+            int made = addCopy(changeOf(c), onto, c);
             for (int path = 0; path < PATHS; path++) {
                 addDifference(made, path, onto, from);
             }
